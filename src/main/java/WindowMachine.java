@@ -104,11 +104,7 @@ public final class WindowMachine {
         if (flags < 0 || flags > 15 || invalid < 0 || invalid > 15 || mode < 0 || mode > 7) {
             throw new IllegalArgumentException("flags or invalid is not 0 to 15, or mode not 0 to 7");
         }
-        processor.flags = flags;
-        processor.y = y;
-        processor.invalid = invalid;
-        processor.changeBase(base);
-        processor.changeMode(mode >> 2, mode >> 1 & 1, mode & 1);
+        processor.adopt(flags, y, invalid, base, mode);
         return processor.window;
     }
 
@@ -163,7 +159,7 @@ public final class WindowMachine {
         }
     }
 
-    /** The globals, then the outs and the locals of each window; the ins are another window's outs. */
+    /** The globals, then the outs and the locals of each window. */
     private static final class Registers {
         private static final int GROUP = 8;
 
@@ -189,19 +185,17 @@ public final class WindowMachine {
             }
         }
 
+        /** A window's ins lie where the outs of the window above do, and round from the last to the first. */
         private static int cellOf(int window, int number) {
             if (number < GROUP) {
                 return number;
             }
-            if (number < 3 * GROUP) {
-                return window * 2 * GROUP + number;
-            }
-            return (window + 1) % WINDOWS * 2 * GROUP + number - 2 * GROUP;
+            return GROUP + (2 * GROUP * window + number - GROUP) % (2 * GROUP * WINDOWS);
         }
     }
 
-    /** Reckons apart from the processor, whose flags a word without cc must leave as they are. */
-    private static final class Reckoner {
+    /** The document's numbers of op 2 (first those of op3 up to 31, where 16 more sets the flags) and op 3. */
+    private static final class Codes {
         static final int AND = 1;
         static final int OR = 2;
         static final int XOR = 3;
@@ -210,12 +204,48 @@ public final class WindowMachine {
         static final int ORN = 6;
         static final int XNOR = 7;
         static final int ADDX = 8;
+        static final int FIRST_GAP = 9;
         static final int UMUL = 10;
         static final int SMUL = 11;
         static final int SUBX = 12;
+        static final int SECOND_GAP = 13;
         static final int UDIV = 14;
         static final int SDIV = 15;
+        static final int FLAGGED = 16;
+        static final int MULSCC = 36;
+        static final int SLL = 37;
+        static final int SRL = 38;
+        static final int SRA = 39;
+        static final int RDY = 40;
+        static final int RDPSR = 41;
+        static final int RDWIM = 42;
+        static final int RDTBR = 43;
+        static final int WRY = 48;
+        static final int WRPSR = 49;
+        static final int WRWIM = 50;
+        static final int WRTBR = 51;
+        static final int JMPL = 56;
+        static final int RETT = 57;
+        static final int TICC = 58;
+        static final int SAVE = 60;
+        static final int RESTORE = 61;
 
+        static final int LD = 0;
+        static final int LDUB = 1;
+        static final int LDUH = 2;
+        static final int LDD = 3;
+        static final int ST = 4;
+        static final int STB = 5;
+        static final int STH = 6;
+        static final int STD = 7;
+        static final int LDSB = 9;
+        static final int LDSH = 10;
+        static final int LDSTUB = 13;
+        static final int SWAP = 15;
+    }
+
+    /** Reckons apart from the processor, whose flags a word without cc must leave as they are. */
+    private static final class Reckoner {
         private static final long LOW_WORD = 0xFFFFFFFFL;
         private static final long GREATEST_INT = 0x7FFFFFFFL;
         private static final long LEAST_INT = -0x80000000L;
@@ -230,19 +260,19 @@ public final class WindowMachine {
         /** For a kind that there is, dividing by no 0. */
         void reckon(int kind, int a, int b, int carryIn, int y) {
             switch (kind) {
-                case AND: take(a & b); break;
-                case OR: take(a | b); break;
-                case XOR: take(a ^ b); break;
-                case SUB: subtract(a, b, 0); break;
-                case ANDN: take(a & ~b); break;
-                case ORN: take(a | ~b); break;
-                case XNOR: take(~(a ^ b)); break;
-                case ADDX: add(a, b, carryIn); break;
-                case UMUL: takeProduct((a & LOW_WORD) * (b & LOW_WORD)); break;
-                case SMUL: takeProduct((long) a * b); break;
-                case SUBX: subtract(a, b, carryIn); break;
-                case UDIV: takeQuotient(quotientWithoutSign(y & LOW_WORD, a, b & LOW_WORD), 0, LOW_WORD); break;
-                case SDIV: takeQuotient(quotientWithSign(y, a, b), LEAST_INT, GREATEST_INT); break;
+                case Codes.AND: take(a & b); break;
+                case Codes.OR: take(a | b); break;
+                case Codes.XOR: take(a ^ b); break;
+                case Codes.SUB: subtract(a, b, 0); break;
+                case Codes.ANDN: take(a & ~b); break;
+                case Codes.ORN: take(a | ~b); break;
+                case Codes.XNOR: take(~(a ^ b)); break;
+                case Codes.ADDX: add(a, b, carryIn); break;
+                case Codes.UMUL: takeProduct((a & LOW_WORD) * (b & LOW_WORD)); break;
+                case Codes.SMUL: takeProduct((long) a * b); break;
+                case Codes.SUBX: subtract(a, b, carryIn); break;
+                case Codes.UDIV: takeQuotient(quotientWithoutSign(y & LOW_WORD, a, b & LOW_WORD), 0, LOW_WORD); break;
+                case Codes.SDIV: takeQuotient(quotientWithSign(y, a, b), LEAST_INT, GREATEST_INT); break;
                 default: add(a, b, 0); break;
             }
         }
@@ -327,6 +357,7 @@ public final class WindowMachine {
         private static final int DIVISION_BY_ZERO = 42;
         private static final int FIRST_OF_TICC = 128;
 
+        private static final int IN_KERNEL = 4;
         private static final int ALWAYS = 8;
         private static final int BASE_BITS = 0xFFFFF000;
         /** The octets that each op3 of op 3 moves; 0: there is no such. */
@@ -363,11 +394,7 @@ public final class WindowMachine {
         void reset(int address) {
             registers.clear();
             window = 0;
-            flags = 0;
-            y = 0;
-            invalid = 0;
-            changeMode(1, 0, 0);
-            base = 0;
+            adopt(0, 0, 0, 0, IN_KERNEL);
             pc = address;
             next = address + WORD_OCTETS;
             annulled = false;
@@ -380,14 +407,18 @@ public final class WindowMachine {
             return halted != NOT_HALTED;
         }
 
-        void changeMode(int kernel, int kernelBefore, int on) {
+        void adopt(int newFlags, int newY, int newInvalid, int newBase, int newMode) {
+            flags = newFlags;
+            y = newY;
+            invalid = newInvalid;
+            base = newBase & BASE_BITS;
+            changeMode(newMode >> 2, newMode >> 1 & 1, newMode & 1);
+        }
+
+        private void changeMode(int kernel, int kernelBefore, int on) {
             inKernel = kernel;
             wasInKernel = kernelBefore;
             trapsOn = on;
-        }
-
-        void changeBase(int value) {
-            base = value & BASE_BITS;
         }
 
         int view(int what) {
@@ -432,8 +463,8 @@ public final class WindowMachine {
             }
             changeMode(1, inKernel, 0);
             window = windowBelow();
-            write(17, pc);
-            write(18, next);
+            registers.write(window, 17, pc);
+            registers.write(window, 18, next);
             pc = base + 16 * trap;
             next = pc + WORD_OCTETS;
         }
@@ -457,7 +488,7 @@ public final class WindowMachine {
 
         private int call(int word) {
             afterNext = pc + (word << 2);
-            write(15, pc);
+            registers.write(window, 15, pc);
             return NO_TRAP;
         }
 
@@ -474,7 +505,7 @@ public final class WindowMachine {
         }
 
         private void branch(int word) {
-            int condition = word >>> 25 & 15;
+            int condition = conditionOf(word);
             boolean goes = isMet(condition);
             if (goes) {
                 afterNext = pc + (word << 10 >> 8);
@@ -503,47 +534,47 @@ public final class WindowMachine {
         }
 
         private int operate(int word) {
-            int op3 = word >>> 19 & 63;
-            int a = read(word >>> 14 & 31);
+            int op3 = op3Of(word);
+            int a = registers.read(window, rs1Of(word));
             int b = secondOperand(word);
-            if (op3 < 32) {
+            if (op3 < 2 * Codes.FLAGGED) {
                 return reckonInto(word, op3, a, b);
             }
             switch (op3) {
-                case 36: return multiplyStep(word, a, b);
-                case 37: return deliver(word, a << (b & 31));
-                case 38: return deliver(word, a >>> (b & 31));
-                case 39: return deliver(word, a >> (b & 31));
-                case 40: return (word >>> 14 & 31) == 0 ? deliver(word, y) : NO_INSTRUCTION;
-                case 41:
-                case 42:
-                case 43: return readSpecial(word, op3);
-                case 48: return writeY(word, a ^ b);
-                case 49:
-                case 50:
-                case 51: return writeSpecial(op3, a ^ b);
-                case 56: return jump(word, a + b);
-                case 57: return returnFromTrap(a + b);
-                case 58: return isMet(word >>> 25 & 15) ? FIRST_OF_TICC + (a + b & 127) : NO_TRAP;
-                case 60: return moveWindow(word, windowBelow(), NO_WINDOW_BELOW, a + b);
-                case 61: return moveWindow(word, windowAbove(), NO_WINDOW_ABOVE, a + b);
+                case Codes.MULSCC: return multiplyStep(word, a, b);
+                case Codes.SLL: return deliver(word, a << (b & 31));
+                case Codes.SRL: return deliver(word, a >>> (b & 31));
+                case Codes.SRA: return deliver(word, a >> (b & 31));
+                case Codes.RDY: return rs1Of(word) == 0 ? deliver(word, y) : NO_INSTRUCTION;
+                case Codes.RDPSR:
+                case Codes.RDWIM:
+                case Codes.RDTBR: return readSpecial(word, op3);
+                case Codes.WRY: return writeY(word, a ^ b);
+                case Codes.WRPSR:
+                case Codes.WRWIM:
+                case Codes.WRTBR: return writeSpecial(op3, a ^ b);
+                case Codes.JMPL: return jump(word, a + b);
+                case Codes.RETT: return returnFromTrap(a + b);
+                case Codes.TICC: return isMet(conditionOf(word)) ? FIRST_OF_TICC + (a + b & 127) : NO_TRAP;
+                case Codes.SAVE: return moveWindow(word, windowBelow(), NO_WINDOW_BELOW, a + b);
+                case Codes.RESTORE: return moveWindow(word, windowAbove(), NO_WINDOW_ABOVE, a + b);
                 default: return NO_INSTRUCTION;
             }
         }
 
         private int reckonInto(int word, int op3, int a, int b) {
-            int kind = op3 & 15;
-            if (kind == 9 || kind == 13) {
+            int kind = op3 % Codes.FLAGGED;
+            if (kind == Codes.FIRST_GAP || kind == Codes.SECOND_GAP) {
                 return NO_INSTRUCTION;
             }
-            if (kind >= Reckoner.UDIV && b == 0) {
+            if ((kind == Codes.UDIV || kind == Codes.SDIV) && b == 0) {
                 return DIVISION_BY_ZERO;
             }
             reckoner.reckon(kind, a, b, flags & 1, y);
-            if (kind == Reckoner.UMUL || kind == Reckoner.SMUL) {
+            if (kind == Codes.UMUL || kind == Codes.SMUL) {
                 y = reckoner.high;
             }
-            if (op3 >= 16) {
+            if (op3 >= Codes.FLAGGED) {
                 flags = reckoner.flags();
             }
             return deliver(word, reckoner.result);
@@ -562,14 +593,17 @@ public final class WindowMachine {
                 return NOT_ALLOWED;
             }
             switch (op3) {
-                case 41: return deliver(word, flags << 20 | inKernel << 7 | wasInKernel << 6 | trapsOn << 5 | window);
-                case 42: return deliver(word, invalid);
-                default: return deliver(word, base);
+                case Codes.RDPSR:
+                    return deliver(word, flags << 20 | inKernel << 7 | wasInKernel << 6 | trapsOn << 5 | window);
+                case Codes.RDWIM:
+                    return deliver(word, invalid);
+                default:
+                    return deliver(word, base);
             }
         }
 
         private int writeY(int word, int value) {
-            if ((word >>> 25 & 31) != 0) {
+            if (rdOf(word) != 0) {
                 return NO_INSTRUCTION;
             }
             y = value;
@@ -581,13 +615,13 @@ public final class WindowMachine {
                 return NOT_ALLOWED;
             }
             switch (op3) {
-                case 49:
+                case Codes.WRPSR:
                     return writeStatus(value);
-                case 50:
+                case Codes.WRWIM:
                     invalid = value & 15;
                     return NO_TRAP;
                 default:
-                    changeBase(value);
+                    base = value & BASE_BITS;
                     return NO_TRAP;
             }
         }
@@ -639,10 +673,10 @@ public final class WindowMachine {
         }
 
         private int access(int word) {
-            int op3 = word >>> 19 & 63;
+            int op3 = op3Of(word);
             int octets = op3 < OCTETS_MOVED.length ? OCTETS_MOVED[op3] : 0;
-            int rd = word >>> 25 & 31;
-            int address = read(word >>> 14 & 31) + secondOperand(word);
+            int rd = rdOf(word);
+            int address = registers.read(window, rs1Of(word)) + secondOperand(word);
             if (octets == 0 || octets == 8 && (rd & 1) == 1) {
                 return NO_INSTRUCTION;
             }
@@ -658,53 +692,62 @@ public final class WindowMachine {
 
         private void move(int op3, int rd, int address) {
             switch (op3) {
-                case 0: write(rd, memory.load(address, 4)); break;
-                case 1: write(rd, memory.load(address, 1)); break;
-                case 2: write(rd, memory.load(address, 2)); break;
-                case 3: loadTwo(rd, address); break;
-                case 4: memory.store(address, 4, read(rd)); break;
-                case 5: memory.store(address, 1, read(rd)); break;
-                case 6: memory.store(address, 2, read(rd)); break;
-                case 7: storeTwo(rd, address); break;
-                case 9: write(rd, memory.load(address, 1) << 24 >> 24); break;
-                case 10: write(rd, memory.load(address, 2) << 16 >> 16); break;
-                case 13: exchange(rd, address, 1, 255); break;
-                default: exchange(rd, address, 4, read(rd)); break;
+                case Codes.LD: registers.write(window, rd, memory.load(address, 4)); break;
+                case Codes.LDUB: registers.write(window, rd, memory.load(address, 1)); break;
+                case Codes.LDUH: registers.write(window, rd, memory.load(address, 2)); break;
+                case Codes.LDD: loadTwo(rd, address); break;
+                case Codes.ST: memory.store(address, 4, registers.read(window, rd)); break;
+                case Codes.STB: memory.store(address, 1, registers.read(window, rd)); break;
+                case Codes.STH: memory.store(address, 2, registers.read(window, rd)); break;
+                case Codes.STD: storeTwo(rd, address); break;
+                case Codes.LDSB: registers.write(window, rd, memory.load(address, 1) << 24 >> 24); break;
+                case Codes.LDSH: registers.write(window, rd, memory.load(address, 2) << 16 >> 16); break;
+                case Codes.LDSTUB: exchange(rd, address, 1, 255); break;
+                case Codes.SWAP: exchange(rd, address, 4, registers.read(window, rd)); break;
+                default: break;
             }
         }
 
         private void loadTwo(int rd, int address) {
-            write(rd, memory.load(address, WORD_OCTETS));
-            write(rd + 1, memory.load(address + WORD_OCTETS, WORD_OCTETS));
+            registers.write(window, rd, memory.load(address, WORD_OCTETS));
+            registers.write(window, rd + 1, memory.load(address + WORD_OCTETS, WORD_OCTETS));
         }
 
         private void storeTwo(int rd, int address) {
-            memory.store(address, WORD_OCTETS, read(rd));
-            memory.store(address + WORD_OCTETS, WORD_OCTETS, read(rd + 1));
+            memory.store(address, WORD_OCTETS, registers.read(window, rd));
+            memory.store(address + WORD_OCTETS, WORD_OCTETS, registers.read(window, rd + 1));
         }
 
         private void exchange(int rd, int address, int octets, int value) {
             int before = memory.load(address, octets);
             memory.store(address, octets, value);
-            write(rd, before);
+            registers.write(window, rd, before);
         }
 
         private int secondOperand(int word) {
             boolean isNumber = (word >>> 13 & 1) == 1;
-            return isNumber ? word << 19 >> 19 : read(word & 31);
+            return isNumber ? word << 19 >> 19 : registers.read(window, word & 31);
         }
 
         private int deliver(int word, int value) {
-            write(word >>> 25 & 31, value);
+            registers.write(window, rdOf(word), value);
             return NO_TRAP;
         }
 
-        private int read(int number) {
-            return registers.read(window, number);
+        private static int rdOf(int word) {
+            return word >>> 25 & 31;
         }
 
-        private void write(int number, int value) {
-            registers.write(window, number, value);
+        private static int conditionOf(int word) {
+            return word >>> 25 & 15;
+        }
+
+        private static int op3Of(int word) {
+            return word >>> 19 & 63;
+        }
+
+        private static int rs1Of(int word) {
+            return word >>> 14 & 31;
         }
 
         private int windowBelow() {
@@ -735,19 +778,11 @@ public final class WindowMachine {
         private static final String PLAIN = "add and or xor sub andn orn xnor addx - umul smul subx - udiv sdiv";
         private static final String WITH_FLAGS =
             "addcc andcc orcc xorcc subcc andncc orncc xnorcc addxcc - umulcc smulcc subxcc - udivcc sdivcc";
-        private static final int FIRST_WITH_FLAGS = 16;
-        private static final String SHIFTS_AND_READS = "mulscc sll srl sra rdy rdpsr rdwim rdtbr";
-        private static final int FIRST_SHIFT = 36;
-        private static final int FIRST_READ = 40;
+        private static final String SHIFTS = "mulscc sll srl sra";
+        private static final String READS = "rdy rdpsr rdwim rdtbr";
         private static final String WRITES = "wry wrpsr wrwim wrtbr";
-        private static final int FIRST_WRITE = 48;
         private static final String JUMPS = "jmpl rett - - save restore";
-        private static final int FIRST_JUMP = 56;
-        private static final int RETT = 57;
-        private static final int TICC = 58;
         private static final String ACCESSES = "ld ldub lduh ldd st stb sth std - ldsb ldsh - - ldstub - swap";
-        private static final int FIRST_STORE = 4;
-        private static final int LAST_STORE = 7;
         private static final String CONDITIONS = "n e le l leu cs neg vs a ne g ge gu cc pos vc";
         private static final String OTHERS = "nop sethi call";
 
@@ -759,11 +794,23 @@ public final class WindowMachine {
         private static final int ANNUL = 1 << 29;
         private static final int IS_NUMBER = 1 << 13;
 
+        // What comes behind a name.
+        private static final int NOTHING = 0;
+        private static final int TARGET = 1;
+        private static final int SOURCES = 2;
+        private static final int SOURCES_TARGET = 3;
+        private static final int TARGET_SOURCES = 4;
+        private static final int HIGHER_BITS_TARGET = 5;
+        private static final int FAR_DISTANCE = 6;
+        private static final int NEAR_DISTANCE = 7;
+
         private final char[] line;
         private int length;
         /** Where reading stands. */
         private int at;
         private int wrong;
+        /** What comes behind the line's name. */
+        private int form;
 
         Assembler() {
             line = new char[MOST_LETTERS];
@@ -805,7 +852,12 @@ public final class WindowMachine {
             while (at < length && line[at] >= 'a' && line[at] <= 'z') {
                 at++;
             }
-            int made = instruction();
+            int made = bitsOfName();
+            if (made == 0) {
+                wrong = 0;
+            } else {
+                made |= operands();
+            }
             if (isGood() && at < length) {
                 wrong = at;
             }
@@ -813,52 +865,69 @@ public final class WindowMachine {
             return made;
         }
 
-        private int instruction() {
+        /** What the name, which ends here, says of the word; 0 if there is no such. Sets the form. */
+        private int bitsOfName() {
             int op3 = operationNamed();
             if (op3 >= 0) {
-                return operation(op3);
+                form = formOf(op3);
+                return OPERATION | op3 << 19;
             }
             op3 = indexIn(ACCESSES, 0);
             if (op3 >= 0) {
-                return access(op3);
+                form = op3 >= Codes.ST && op3 <= Codes.STD ? TARGET_SOURCES : SOURCES_TARGET;
+                return ACCESS | op3 << 19;
             }
             int condition = conditionBehind('b');
             if (condition >= 0) {
-                return branch(condition);
+                form = NEAR_DISTANCE;
+                return BRANCH | condition << 25;
             }
             condition = conditionBehind('t');
             if (condition >= 0) {
-                return sourcesOnly(OPERATION | condition << 25 | TICC << 19);
+                form = SOURCES;
+                return OPERATION | condition << 25 | Codes.TICC << 19;
             }
+            return bitsOfOthers();
+        }
+
+        private int bitsOfOthers() {
             switch (indexIn(OTHERS, 0)) {
-                case 0: return SETHI;
-                case 1: return sethi();
-                case 2: return call();
-                default: break;
+                case 0:
+                    form = NOTHING;
+                    return SETHI;
+                case 1:
+                    form = HIGHER_BITS_TARGET;
+                    return SETHI;
+                case 2:
+                    form = FAR_DISTANCE;
+                    return CALL;
+                default:
+                    return 0;
             }
-            wrong = 0;
-            return 0;
         }
 
         private int operationNamed() {
-            int index = indexIn(PLAIN, 0);
-            if (index >= 0) {
-                return index;
+            int op3 = codeIn(PLAIN, 0);
+            op3 = op3 >= 0 ? op3 : codeIn(WITH_FLAGS, Codes.FLAGGED);
+            op3 = op3 >= 0 ? op3 : codeIn(SHIFTS, Codes.MULSCC);
+            op3 = op3 >= 0 ? op3 : codeIn(READS, Codes.RDY);
+            op3 = op3 >= 0 ? op3 : codeIn(WRITES, Codes.WRY);
+            return op3 >= 0 ? op3 : codeIn(JUMPS, Codes.JMPL);
+        }
+
+        private int codeIn(String names, int first) {
+            int index = indexIn(names, 0);
+            return index >= 0 ? first + index : -1;
+        }
+
+        private static int formOf(int op3) {
+            if (op3 >= Codes.RDY && op3 <= Codes.RDTBR) {
+                return TARGET;
             }
-            index = indexIn(WITH_FLAGS, 0);
-            if (index >= 0) {
-                return FIRST_WITH_FLAGS + index;
+            if (op3 >= Codes.WRY && op3 <= Codes.WRTBR || op3 == Codes.RETT) {
+                return SOURCES;
             }
-            index = indexIn(SHIFTS_AND_READS, 0);
-            if (index >= 0) {
-                return FIRST_SHIFT + index;
-            }
-            index = indexIn(WRITES, 0);
-            if (index >= 0) {
-                return FIRST_WRITE + index;
-            }
-            index = indexIn(JUMPS, 0);
-            return index >= 0 ? FIRST_JUMP + index : -1;
+            return SOURCES_TARGET;
         }
 
         private int conditionBehind(char first) {
@@ -893,71 +962,48 @@ public final class WindowMachine {
             return true;
         }
 
-        private int operation(int op3) {
-            int made = OPERATION | op3 << 19;
-            if (op3 >= FIRST_READ && op3 < FIRST_WRITE) {
-                expect(' ');
-                return made | registerNumber() << 25;
-            }
-            if (op3 == RETT || op3 >= FIRST_WRITE && op3 < FIRST_JUMP) {
-                return sourcesOnly(made);
-            }
-            return sourcesAndTarget(made);
-        }
-
-        private int access(int op3) {
-            int made = ACCESS | op3 << 19;
-            if (op3 < FIRST_STORE || op3 > LAST_STORE) {
-                return sourcesAndTarget(made);
+        private int operands() {
+            if (form == NOTHING) {
+                return 0;
             }
             expect(' ');
-            made |= registerNumber() << 25;
+            switch (form) {
+                case TARGET: return target();
+                case SOURCES: return sources();
+                case SOURCES_TARGET: return behind(sources()) | target();
+                case TARGET_SOURCES: return behind(target()) | sources();
+                case HIGHER_BITS_TARGET: return behind(number(0, 4194303)) | target();
+                case FAR_DISTANCE: return number(-536870912, 536870911);
+                default: return distanceAndAnnul();
+            }
+        }
+
+        /** Reads the comma behind an operand's bits. */
+        private int behind(int bits) {
             expect(',');
-            return made | sources();
+            return bits;
         }
 
-        private int sourcesAndTarget(int made) {
-            expect(' ');
-            int both = sources();
-            expect(',');
-            return made | both | registerNumber() << 25;
-        }
-
-        private int sourcesOnly(int made) {
-            expect(' ');
-            return made | sources();
-        }
-
-        private int branch(int condition) {
-            expect(' ');
-            int made = condition << 25 | BRANCH | withSign(22);
-            if (isGood() && at < length) {
-                expect(',');
-                expect('a');
-                made |= ANNUL;
-            }
-            return made;
-        }
-
-        private int call() {
-            expect(' ');
-            return CALL | withSign(30);
-        }
-
-        private int sethi() {
-            expect(' ');
-            int number = number(0, (1 << 22) - 1);
-            expect(',');
-            return SETHI | number | registerNumber() << 25;
+        private int target() {
+            return registerNumber() << 25;
         }
 
         private int sources() {
-            int first = registerNumber() << 14;
-            expect(',');
+            int first = behind(registerNumber()) << 14;
             if (at < length && line[at] == '%') {
                 return first | registerNumber();
             }
-            return first | IS_NUMBER | withSign(13);
+            return first | IS_NUMBER | number(-4096, 4095);
+        }
+
+        private int distanceAndAnnul() {
+            int distance = number(-2097152, 2097151);
+            if (!isGood() || at == length) {
+                return distance;
+            }
+            expect(',');
+            expect('a');
+            return distance | ANNUL;
         }
 
         private int registerNumber() {
@@ -968,11 +1014,7 @@ public final class WindowMachine {
             return number;
         }
 
-        private int withSign(int bits) {
-            int half = 1 << bits - 1;
-            return number(-half, half - 1) & (1 << bits) - 1;
-        }
-
+        /** The bits of a number that has to fit; each range is as wide as all that its bits can hold. */
         private int number(int least, int greatest) {
             int from = at;
             boolean isNegative = isGood() && at < length && line[at] == '-';
@@ -982,7 +1024,7 @@ public final class WindowMachine {
             int size = digits(9);
             int number = isNegative ? -size : size;
             checkRange(number, least, greatest, from);
-            return number;
+            return number & greatest - least;
         }
 
         private void checkRange(int number, int least, int greatest, int from) {

@@ -14,6 +14,7 @@ final class ArithmeticTest {
         multiplyStep();
         specialY();
         operands();
+        oneAfterAnother();
         noInstruction();
         checks.end();
     }
@@ -60,6 +61,8 @@ final class ArithmeticTest {
         due("sub", MAX, -1, MIN, 11);
         due("sub", 0, MIN, MIN, 11);
         due("sub", -1, 1, -2, 8);
+        due("sub", -1, -2, 1, 0);
+        due("sub", -2, -1, -1, 9);
         due("sub", new int[] {7, 4, 15}, 3, 0, 0);
         due("subx", new int[] {7, 4, 1}, 2, 0, 0);
         due("subx", new int[] {7, 4, 14}, 3, 0, 0);
@@ -242,6 +245,22 @@ final class ArithmeticTest {
         same.run(2);
         checks.due("rd is a source, too", same.register(0, 1), 0);
         checks.due("rd is both sources", same.register(0, 2), 18);
+    }
+
+    /** What an earlier word left must not show in a later one's flags. */
+    private static void oneAfterAnother() {
+        String[] names = {"andcc", "orcc", "xorcc", "andncc", "orncc", "xnorcc", "umulcc", "smulcc", "udivcc", "sdivcc"};
+        for (String name : names) {
+            WindowMachine machine = Checks.program("addcc %1,%1,%0", name + " %2,3,%4", "addcc %1,%1,%0", "add %2,3,%0");
+            machine.set(0, 1, MIN);
+            machine.set(0, 2, 7);
+            machine.run(1);
+            checks.due("V and C", machine.state(Checks.FLAGS), 7);
+            machine.run(1);
+            checks.due("no V and C of " + name, machine.state(Checks.FLAGS) & 3, 0);
+            machine.run(2);
+            checks.due("add leaves them", machine.state(Checks.FLAGS), 7);
+        }
     }
 
     private static void noInstruction() {

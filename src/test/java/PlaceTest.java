@@ -7,6 +7,7 @@ final class PlaceTest {
         operands();
         numbers();
         missing();
+        behindLongerLines();
         latest();
         addresses();
         checks.end();
@@ -26,6 +27,7 @@ final class PlaceTest {
         due("foo", 0);
         due("foo %1", 0);
         due("addd %1,%2,%3", 0);
+        due("addz %1,%2,%3", 0);
         due("ad %1,%2,%3", 0);
         due("b 3", 0);
         due("t %0,1", 0);
@@ -131,6 +133,29 @@ final class PlaceTest {
             }
         }
         due("ba 3,", 5);
+    }
+
+    /** A longer line before must not be read behind a shorter one. */
+    private static void behindLongerLines() {
+        String[] lines = {"add %12,%2,%3", "add %1,-7,%3", "add %1,%2,%3", "sethi 25,%1", "wry %1,-2", "ba -3,a", "nop"};
+        for (String line : lines) {
+            WindowMachine machine = new WindowMachine();
+            for (int end = 0; end < line.length(); end++) {
+                Checks.translate(machine, 0, line);
+                if (end > 0) {
+                    Checks.type(machine, line.substring(0, end));
+                }
+                String text = "\"" + line.substring(0, end) + "\" behind the whole line";
+                boolean isWhole = line.equals("ba -3,a") && end == 5;
+                boolean isName = end >= line.replaceAll("[^a-z].*", "").length();
+                if (isWhole) {
+                    checks.due(text, machine.assemble(0), 0x10BFFFFD);
+                } else {
+                    checks.dueArgument(text, () -> machine.assemble(0));
+                    checks.due(text + ": place()", machine.place(), isName ? end : 0);
+                }
+            }
+        }
     }
 
     private static void latest() {

@@ -68,8 +68,16 @@ final class RunTest {
         checks.due("memory stays", machine.word(512), 99);
         machine.start(8);
         checks.due("run(9)", machine.run(9), 1);
-        checks.due("why it halted", machine.state(Checks.HALTED), 137);
+        checks.dueState("why it halted", machine, Checks.HALTED, 137, Checks.TRAPS, 1);
         checks.due("start(0) tells it", machine.start(0), 137);
+        checks.dueState("it runs again", machine, Checks.HALTED, -1, Checks.TRAPS, 0, Checks.STEPS, 0);
+        checks.due("run(1)", machine.run(1), 1);
+        Checks.translate(machine, 16, "restore %0,0,%0");
+        machine.start(16);
+        machine.run(1);
+        checks.due("W moves", machine.state(Checks.WINDOW), 1);
+        machine.start(16);
+        checks.due("W is 0 again", machine.state(Checks.WINDOW), 0);
         checks.due("start(1020)", machine.start(1020), -1);
         checks.dueState("at 1020", machine, Checks.PC, 1020, Checks.NEXT, 1024);
         for (int a : new int[] {-4, -1, 1, 2, 3, 1022, 1023, 1024, Integer.MIN_VALUE, Integer.MAX_VALUE}) {
