@@ -7,6 +7,7 @@ final class AccessTest {
         stores();
         exchanges();
         order();
+        edges();
         noInstruction();
         ownWords();
         checks.end();
@@ -134,6 +135,43 @@ final class AccessTest {
         machine.set(0, 2, Integer.MIN_VALUE + 4);
         machine.run(1);
         checks.due("the sum wraps into memory", machine.register(0, 3), 0x55);
+    }
+
+    /**
+     * "Of 2, 4, 8 octets: TRAP 7 if it is no multiple; ldd, std with an odd rd: TRAP 2 (before that); not all in
+     * MEMORY: TRAP 9": each kind round both ends of memory, and of the ints.
+     */
+    private static void edges() {
+        int[] octets = {4, 1, 2, 8, 4, 1, 2, 8, 0, 1, 2, 0, 0, 1, 0, 4};
+        for (int op3 = 0; op3 < 16; op3++) {
+            if (octets[op3] == 0) {
+                continue;
+            }
+            for (int middle : new int[] {0, 1024, 512, Integer.MIN_VALUE, 65536}) {
+                WindowMachine machine = new WindowMachine();
+                for (int rd = 2; rd < 4; rd++) {
+                    machine.put(256, 3 << 30 | rd << 25 | op3 << 19 | 4 << 14);
+                    for (int near = -10; near <= 10; near++) {
+                        dueEdge(machine, rd, middle + near, octets[op3]);
+                    }
+                }
+            }
+        }
+    }
+
+    private static void dueEdge(WindowMachine machine, int rd, int address, int octets) {
+        int want = -1;
+        if (octets == 8 && rd % 2 == 1) {
+            want = 2;
+        } else if (address % octets != 0) {
+            want = 7;
+        } else if (address < 0 || address > 1023) {
+            want = 9;
+        }
+        machine.start(256);
+        machine.set(0, 4, address);
+        machine.run(1);
+        checks.due(octets + " octets at " + address + ", rd " + rd, machine.state(Checks.HALTED), want);
     }
 
     private static void dueTraps(String[] lines, int want, int... numbers) {

@@ -165,6 +165,20 @@ final class ArithmeticTest {
         dueOne("srl %1,%2,%3", new int[] {-1, 32, 0, 0}, -1, 0, 0);
         dueOne("sra %1,%2,%3", new int[] {-256, 4, 5, 6}, -16, 5, 6);
         dueOne("sra %1,%2,%3", new int[] {256, 68, 0, 0}, 16, 0, 0);
+        lowestFiveBits();
+    }
+
+    /** "by the lowest five bits of B" */
+    private static void lowestFiveBits() {
+        for (int by : new int[] {0, 1, 30, 31, 32, 33, 63, 64, 4095, -4096, -1, -31, -32, MIN, MAX}) {
+            int bits = (by % 32 + 32) % 32;
+            for (int a : new int[] {MIN, MAX, -1, 1, 0x12345678, 0x87654321}) {
+                long withoutSign = a & 0xFFFFFFFFL;
+                dueOne("sll %1,%2,%3", new int[] {a, by, 6, 7}, (int) (withoutSign * (1L << bits)), 6, 7);
+                dueOne("srl %1,%2,%3", new int[] {a, by, 6, 7}, (int) (withoutSign / (1L << bits)), 6, 7);
+                dueOne("sra %1,%2,%3", new int[] {a, by, 6, 7}, (int) Math.floorDiv((long) a, 1L << bits), 6, 7);
+            }
+        }
     }
 
     private static void multiplyStep() {

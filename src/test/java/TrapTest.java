@@ -163,6 +163,36 @@ final class TrapTest {
         checks.dueState("wr", machine, Checks.INVALID, 7, Checks.BASE, 0xEDCBA000, Checks.HALTED, -1);
         checks.due("rdwim", machine.register(0, 3), 7);
         checks.due("rdtbr", machine.register(0, 4), 0xEDCBA000);
+        lowestFourBits();
+        withoutLowestTwelveBits();
+    }
+
+    /** "INVALID (its lowest four bits)" */
+    private static void lowestFourBits() {
+        for (int value : new int[] {0, 1, 8, 15, 16, 17, 31, 32, -1, -16, Integer.MIN_VALUE, Integer.MAX_VALUE}) {
+            WindowMachine machine = Checks.program("wrwim %1,0", "rdwim %3");
+            machine.set(0, 1, value);
+            machine.mode(9, 7, 6, 4096, 6);
+            machine.run(2);
+            checks.dueState("wrwim " + value, machine, Checks.INVALID, value & 15, Checks.BASE, 4096, Checks.FLAGS, 9,
+                Checks.Y, 7, Checks.MODE, 6, Checks.WINDOW, 0, Checks.HALTED, -1);
+            checks.due("rdwim of " + value, machine.register(0, 3), value & 15);
+        }
+    }
+
+    /** "BASE (bits 31 to 12; rd: likewise)" */
+    private static void withoutLowestTwelveBits() {
+        int[][] rows = {{0, 0}, {4095, 0}, {4096, 4096}, {-1, -4096}, {Integer.MIN_VALUE, Integer.MIN_VALUE},
+            {Integer.MAX_VALUE, Integer.MAX_VALUE - 4095}, {-4097, -8192}};
+        for (int[] row : rows) {
+            WindowMachine machine = Checks.program("wrtbr %1,0", "rdtbr %3");
+            machine.set(0, 1, row[0]);
+            machine.mode(9, 7, 6, 8192, 6);
+            machine.run(2);
+            checks.dueState("wrtbr " + row[0], machine, Checks.INVALID, 6, Checks.BASE, row[1], Checks.FLAGS, 9,
+                Checks.Y, 7, Checks.MODE, 6, Checks.WINDOW, 0, Checks.HALTED, -1);
+            checks.due("rdtbr of " + row[0], machine.register(0, 3), row[1]);
+        }
     }
 
     private static void onlyTheKernel() {

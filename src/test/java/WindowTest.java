@@ -13,6 +13,8 @@ final class WindowTest {
         WindowMachine machine = Checks.program("save %8,%16,%8", "restore %24,1,%9", "restore %0,7,%16", "save %0,9,%1");
         machine.set(0, 8, 100);
         machine.set(0, 16, 20);
+        machine.set(3, 8, 5000);
+        machine.set(3, 16, 6000);
         machine.mode(9, 0, 0, 0, 4);
         machine.run(1);
         checks.dueState("save", machine, Checks.WINDOW, 3, Checks.FLAGS, 9, Checks.PC, 4, Checks.NEXT, 8);
